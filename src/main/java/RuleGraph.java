@@ -235,7 +235,10 @@ public final class RuleGraph {
         if (i == -1) {
             return report.textLength;
         }
-        return i >= 0 && i < report.textLength ? report.text[i] : NONE;
+        if (i < 0 || i >= report.textLength) {
+            return NONE;
+        }
+        return report.text[i];
     }
 
     private boolean hasField(int o, int f) {
@@ -575,6 +578,7 @@ public final class RuleGraph {
     private static final class Report {
         int count;
         final int[][] facts;
+        /** The steps that led to the object of each violation. */
         final Row[] ways;
         /** The steps that the check going on has gone over so far. */
         final Row trail;
@@ -611,7 +615,6 @@ public final class RuleGraph {
             Row steps = ways[count];
             System.arraycopy(trail.items, 0, steps.items, 0, trail.size);
             steps.size = trail.size;
-            steps.add(f * PLACES + element + 1);
             count++;
             return true;
         }
@@ -629,11 +632,10 @@ public final class RuleGraph {
             textLength = 0;
             Row steps = ways[k];
             for (int i = 0; i < steps.size; i++) {
-                if (i > 0) {
-                    write('.');
-                }
                 spellStep(steps.items[i] / PLACES, steps.items[i] % PLACES - 1);
+                write('.');
             }
+            spellStep(facts[k][1], facts[k][2]);
         }
 
         private void spellStep(int f, int place) {

@@ -5,6 +5,7 @@ public final class CheckTest {
     public static void main(String[] args) {
         validateRefusedChangesNothing();
         rulesBeforeCascades();
+        fieldsThatItHasAlone();
         checkedAlreadyOnTheWay();
         sameObjectOnAnotherWay();
         stagesOfAnOrder();
@@ -88,6 +89,23 @@ public final class CheckTest {
         due.violation(x, 4, "f0[1].f1", 2, 1, -1, 6, -1, -1);
         due.violation(x, 5, "f1.f2", 1, 2, -1, 0, -1, 0);
         due.violation(x, 6, "f1.f1", 1, 1, -1, 6, -1, -1);
+    }
+
+    private static void fieldsThatItHasAlone() {
+        due.about("rules and cascades of fields that it has alone");
+        RuleGraph x = net(1);
+        x.type(-1);
+        x.field(1, 1);
+        x.cascade(3);
+        x.rule(0, false, 0, 0, 0, 1);
+        x.rule(3, false, 0, 0, 0, 1);
+        x.object(1);
+        due.is("validate(1, 0)", x.validate(1, 0), 1);
+        due.violation(x, 0, "f3", 1, 3, -1, 7, -1, -1);
+        x.put(1, 3, 0);
+        due.is("validate(1, 0)", x.validate(1, 0), 2);
+        due.violation(x, 0, "f3.f2", 0, 2, -1, 0, -1, 0);
+        due.violation(x, 1, "f3.f0", 0, 0, -1, 6, -1, -1);
     }
 
     private static void checkedAlreadyOnTheWay() {
