@@ -23,41 +23,13 @@ public final class CheckTest {
         lookRefusedChangesNothing();
         violationRefused();
         violationStaysAsFound();
-        longestWay();
         wayRefused();
         due.end();
     }
 
-    /**
-     * A class with LINKS f0 (cascaded), LINK f1 (cascaded) and INT f2, and as many objects of it;
-     * rule g, of group g, asks that f2 is at least 1.
-     */
-    private static RuleGraph net(int objects) {
-        RuleGraph x = new RuleGraph();
-        x.type(-1);
-        x.field(0, 3);
-        x.field(0, 1);
-        x.field(0, 0);
-        x.cascade(0);
-        x.cascade(1);
-        for (int g = 0; g < 6; g++) {
-            x.rule(2, false, 1, 1, 0, 1 << g);
-        }
-        for (int o = 0; o < objects; o++) {
-            x.object(0);
-        }
-        return x;
-    }
-
-    private static void lead(RuleGraph x, int o, int... targets) {
-        for (int target : targets) {
-            x.append(o, 0, target);
-        }
-    }
-
     private static void validateRefusedChangesNothing() {
         due.about("promise 16: validate refused");
-        RuleGraph x = net(2);
+        RuleGraph x = Graphs.net(2);
         x.put(0, 1, 1);
         due.is("validate(0, 0)", x.validate(0, 0), 2);
         int[][] wrong = {{2, 0}, {-1, 0}, {0, -1}, {0, 8}, {Integer.MIN_VALUE, Integer.MAX_VALUE}};
@@ -76,9 +48,9 @@ public final class CheckTest {
 
     private static void rulesBeforeCascades() {
         due.about("rules before cascades, both by number");
-        RuleGraph x = net(4);
+        RuleGraph x = Graphs.net(4);
         x.rule(1, false, 0, 0, 0, 1);
-        lead(x, 0, 3, 2);
+        Graphs.lead(x, 0, 3, 2);
         x.put(0, 1, 1);
         due.is("validate(0, 0)", x.validate(0, 0), 7);
         due.is("visits()", x.visits(), 4);
@@ -93,7 +65,7 @@ public final class CheckTest {
 
     private static void fieldsThatItHasAlone() {
         due.about("rules and cascades of fields that it has alone");
-        RuleGraph x = net(1);
+        RuleGraph x = Graphs.net(1);
         x.type(-1);
         x.field(1, 1);
         x.cascade(3);
@@ -110,7 +82,7 @@ public final class CheckTest {
 
     private static void checkedAlreadyOnTheWay() {
         due.about("checked already on the way");
-        RuleGraph x = net(2);
+        RuleGraph x = Graphs.net(2);
         x.put(0, 1, 0);
         due.is("a link to itself", x.validate(0, 0), 1);
         due.is("visits()", x.visits(), 1);
@@ -128,8 +100,8 @@ public final class CheckTest {
 
     private static void sameObjectOnAnotherWay() {
         due.about("the same object on other ways");
-        RuleGraph x = net(3);
-        lead(x, 0, 1, 2, 1);
+        RuleGraph x = Graphs.net(3);
+        Graphs.lead(x, 0, 1, 2, 1);
         x.put(2, 1, 1);
         x.put(1, 1, 0);
         due.is("validate(0, 0)", x.validate(0, 0), 5);
@@ -175,7 +147,7 @@ public final class CheckTest {
 
     private static void stageEndsByWhatItLedTo() {
         due.about("a stage ends by what it led to");
-        RuleGraph x = net(2);
+        RuleGraph x = Graphs.net(2);
         x.put(0, 2, 1);
         x.put(0, 1, 1);
         x.order(0, 2);
@@ -190,7 +162,7 @@ public final class CheckTest {
 
     private static void stagesAfterEarlierViolations() {
         due.about("earlier violations end no stage of another object");
-        RuleGraph x = net(2);
+        RuleGraph x = Graphs.net(2);
         x.type(0);
         x.object(1);
         x.order(0, 2);
@@ -207,7 +179,7 @@ public final class CheckTest {
 
     private static void stageOfAnOrderIsNoCheckOfItsGroup() {
         due.about("a stage of an order is no check of its group");
-        RuleGraph x = net(1);
+        RuleGraph x = Graphs.net(1);
         x.put(0, 1, 0);
         x.put(0, 2, 1);
         x.order(0, 2);
@@ -225,7 +197,7 @@ public final class CheckTest {
 
     private static void ordersOfObjectsThatFieldsLeadTo() {
         due.about("orders of objects that fields lead to");
-        RuleGraph x = net(1);
+        RuleGraph x = Graphs.net(1);
         x.type(0);
         x.object(1);
         x.put(0, 1, 1);
@@ -245,7 +217,7 @@ public final class CheckTest {
 
     private static void firstFailureIsMet() {
         due.about("the first failure that is met");
-        RuleGraph x = net(1);
+        RuleGraph x = Graphs.net(1);
         x.type(0);
         x.object(1);
         x.put(0, 1, 1);
@@ -267,15 +239,15 @@ public final class CheckTest {
 
     /** Object 0 is visited 60 times less one by what object 5 leads to; see the sums. */
     private static RuleGraph sixty() {
-        RuleGraph x = net(6);
+        RuleGraph x = Graphs.net(6);
         for (int o = 0; o < 6; o++) {
             x.put(o, 2, 1);
         }
-        lead(x, 1, 0, 0, 0); // 4 visits
-        lead(x, 2, 1, 1, 1); // 13
-        lead(x, 3, 2, 2, 2); // 40
-        lead(x, 4, 1, 0); // 6
-        lead(x, 5, 3, 2, 4); // 60
+        Graphs.lead(x, 1, 0, 0, 0); // 4 visits
+        Graphs.lead(x, 2, 1, 1, 1); // 13
+        Graphs.lead(x, 3, 2, 2, 2); // 40
+        Graphs.lead(x, 4, 1, 0); // 6
+        Graphs.lead(x, 5, 3, 2, 4); // 60
         return x;
     }
 
@@ -292,7 +264,7 @@ public final class CheckTest {
         due.is("visits()", x.visits(), 60);
         x.put(5, 1, -1);
         x.put(5, 2, 0);
-        lead(x, 4, 0);
+        Graphs.lead(x, 4, 0);
         due.is("the sixty-first, with a violation", x.validate(5, 0), -5);
         due.is("found()", x.found(), 0);
         due.is("the next call has its own visits", x.validate(3, 0), 0);
@@ -312,7 +284,7 @@ public final class CheckTest {
 
     /** A chain over f1 through all objects and over f3, which makes 1 of 0, back to the first. */
     private static RuleGraph ring(int objects) {
-        RuleGraph x = net(objects);
+        RuleGraph x = Graphs.net(objects);
         x.field(0, 1);
         x.cascade(3);
         x.convert(3, 0, 1);
@@ -369,7 +341,7 @@ public final class CheckTest {
 
     private static void lookAtOneField() {
         due.about("promise 17: look");
-        RuleGraph x = net(2);
+        RuleGraph x = Graphs.net(2);
         x.type(0);
         x.field(1, 0);
         x.object(1);
@@ -394,7 +366,7 @@ public final class CheckTest {
 
     private static void lookIsNoVisit() {
         due.about("promise 19: visits");
-        RuleGraph x = net(2);
+        RuleGraph x = Graphs.net(2);
         x.put(0, 1, 1);
         due.is("look(0, 2, 0)", x.look(0, 2, 0), 1);
         due.is("visits() before", x.visits(), 0);
@@ -410,7 +382,7 @@ public final class CheckTest {
 
     private static void lookRefusedChangesNothing() {
         due.about("promise 17: look refused");
-        RuleGraph x = net(1);
+        RuleGraph x = Graphs.net(1);
         x.type(-1);
         x.field(1, 0);
         x.validate(0, 0);
@@ -424,7 +396,7 @@ public final class CheckTest {
 
     private static void violationRefused() {
         due.about("promise 20: violation refused");
-        RuleGraph x = net(1);
+        RuleGraph x = Graphs.net(1);
         x.put(0, 2, -7);
         x.validate(0, 3);
         due.violation(x, 0, "f2", 0, 2, -1, 3, -1, -7);
@@ -437,7 +409,7 @@ public final class CheckTest {
 
     private static void violationStaysAsFound() {
         due.about("promise 20: as it was when it was found");
-        RuleGraph x = net(2);
+        RuleGraph x = Graphs.net(2);
         x.field(0, 2);
         x.rule(3, false, 3, 2, 2, 1);
         x.rule(3, true, 1, 9, 0, 1);
@@ -456,44 +428,9 @@ public final class CheckTest {
         due.violation(x, 3, "f1.f2", 1, 2, -1, 0, -1, 0);
     }
 
-    private static void longestWay() {
-        due.about("promise 21: the longest way");
-        RuleGraph x = new RuleGraph();
-        x.type(-1);
-        for (int f = 0; f < 10; f++) {
-            x.field(0, 0);
-        }
-        x.field(0, 3);
-        x.field(0, 3);
-        x.field(0, 2);
-        x.cascade(10);
-        x.cascade(11);
-        x.convert(11, 0, 1);
-        for (int o = 0; o < 8; o++) {
-            x.object(0);
-        }
-        for (int o = 0; o < 7; o++) {
-            x.append(o, 10, o);
-            x.append(o, 10, o);
-            x.append(o, 10, o + 1);
-        }
-        x.append(7, 11, 0);
-        String half = "f10[2].".repeat(7);
-        String way = half + "f11[0]." + half + "f12[1]";
-        x.append(7, 12, 0);
-        x.append(7, 12, 1);
-        x.rule(12, true, 2, 0, 0, 2);
-        due.is("validate(0, 0)", x.validate(0, 0), 1);
-        due.is("visits()", x.visits(), 16);
-        due.is("way(0, -1)", x.way(0, -1), 111);
-        due.violation(x, 0, way, 7, 12, 1, 0, -1, 1);
-        due.is("way(0, 110)", x.way(0, 110), ']');
-        due.is("way(0, 111)", x.way(0, 111), -1);
-    }
-
     private static void wayRefused() {
         due.about("promise 21: way refused");
-        RuleGraph x = net(2);
+        RuleGraph x = Graphs.net(2);
         x.put(0, 1, 1);
         due.is("validate(0, 0)", x.validate(0, 0), 2);
         due.is("way(1, -1)", x.way(1, -1), 5);

@@ -50,7 +50,8 @@ final class Due {
 
     static String wayOf(RuleGraph x, int k) {
         StringBuilder text = new StringBuilder();
-        for (int i = 0; i < x.way(k, -1); i++) {
+        int length = x.way(k, -1);
+        for (int i = 0; i < length; i++) {
             text.append((char) x.way(k, i));
         }
         return text.toString();

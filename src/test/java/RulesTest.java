@@ -25,20 +25,9 @@ public final class RulesTest {
         due.end();
     }
 
-    /** One class with a field of each kind, the number being the kind, and one object. */
-    private static RuleGraph fourFields() {
-        RuleGraph x = new RuleGraph();
-        x.type(-1);
-        for (int kind = 0; kind < 4; kind++) {
-            x.field(0, kind);
-        }
-        x.object(0);
-        return x;
-    }
-
     private static void ruleCalls() {
         due.about("promise 4: rule");
-        RuleGraph x = fourFields();
+        RuleGraph x = Graphs.fourFields();
         due.is("no such field", x.rule(4, false, 0, 0, 0, 1), -1);
         due.is("no such field", x.rule(-1, false, 0, 0, 0, 1), -1);
         due.is("kind -1", x.rule(0, false, -1, 0, 0, 1), -1);
@@ -73,11 +62,11 @@ public final class RulesTest {
 
     private static void fits(int kind, int f, boolean element, boolean wanted) {
         String call = "kind " + kind + " on " + f + (element ? " by element" : "");
-        RuleGraph x = fourFields();
+        RuleGraph x = Graphs.fourFields();
         x.rule(f, element, kind, 0, 0, 1);
         due.is(call, x.validate(0, 0) == -4 ? 0 : 1, wanted ? 1 : 0);
         due.is(call + " looked at", x.look(0, f, 0) == -4 ? 0 : 1, wanted ? 1 : 0);
-        RuleGraph y = fourFields();
+        RuleGraph y = Graphs.fourFields();
         y.part(1, kind, 0, 0);
         y.rule(f, element, 4, 1, 0, 1);
         due.is(call + " as a part", y.validate(0, 0) == -4 ? 0 : 1, wanted ? 1 : 0);
@@ -85,7 +74,7 @@ public final class RulesTest {
 
     private static void notFittingIsMetWithoutElements() {
         due.about("FIT");
-        RuleGraph x = fourFields();
+        RuleGraph x = Graphs.fourFields();
         x.rule(2, true, 0, 0, 0, 2);
         due.is("of another group", x.validate(0, 0), 0);
         due.is("of a list that is none", x.validate(0, 1), -4);
@@ -98,7 +87,7 @@ public final class RulesTest {
 
     private static void whatBreaksInts() {
         due.about("LEAST and MOST");
-        RuleGraph x = fourFields();
+        RuleGraph x = Graphs.fourFields();
         x.rule(0, false, 1, -2, 99, 1);
         x.rule(0, false, 2, 4, -99, 1);
         int[] values = {-3, -2, -1, 4, 5, LEAST_INT, MOST_INT};
@@ -121,7 +110,7 @@ public final class RulesTest {
 
     private static void whatBreaksLists() {
         due.about("PRESENT and SIZE");
-        RuleGraph x = fourFields();
+        RuleGraph x = Graphs.fourFields();
         for (int f = 1; f < 4; f++) {
             x.rule(f, false, 0, 0, 0, 1);
         }
@@ -149,7 +138,7 @@ public final class RulesTest {
 
     private static void groupsOfRules() {
         due.about("groups of rules");
-        RuleGraph x = fourFields();
+        RuleGraph x = Graphs.fourFields();
         x.rule(0, false, 1, 1, 0, 1 + 4);
         x.rule(0, false, 1, 1, 0, 32);
         int[] wanted = {1, 0, 1, 0, 0, 1};
@@ -178,7 +167,7 @@ public final class RulesTest {
 
     private static void partsByNumber() {
         due.about("promise 5: parts by number");
-        RuleGraph x = fourFields();
+        RuleGraph x = Graphs.fourFields();
         x.part(2, 2, 3, 0);
         x.part(2, 1, 9, 0);
         x.part(2, 2, 5, 0);
@@ -202,7 +191,7 @@ public final class RulesTest {
 
     private static void emptyCompositionFitsAll() {
         due.about("a composition without parts");
-        RuleGraph x = fourFields();
+        RuleGraph x = Graphs.fourFields();
         x.put(0, 0, MOST_INT);
         x.put(0, 1, 0);
         for (int f = 0; f < 4; f++) {
@@ -217,7 +206,7 @@ public final class RulesTest {
 
     private static void compositionsAreLookedAtAsTheyAre() {
         due.about("compositions change");
-        RuleGraph x = fourFields();
+        RuleGraph x = Graphs.fourFields();
         x.rule(0, false, 4, 1, 0, 1);
         due.is("without parts", x.validate(0, 0), 0);
         x.part(1, 1, 5, 0);
@@ -230,7 +219,7 @@ public final class RulesTest {
 
     private static void singleCalls() {
         due.about("promise 6: single");
-        RuleGraph x = fourFields();
+        RuleGraph x = Graphs.fourFields();
         due.no("single(-1, true)", x.single(-1, true));
         due.no("single(3, false)", x.single(3, false));
         x.part(0, 1, 2, 0);
@@ -271,7 +260,7 @@ public final class RulesTest {
 
     private static void closures() {
         due.about("promise 7: closures");
-        RuleGraph x = fourFields();
+        RuleGraph x = Graphs.fourFields();
         for (int g = 0; g < 6; g++) {
             x.rule(0, false, 1, 1, 0, 1 << g);
         }
@@ -310,7 +299,7 @@ public final class RulesTest {
 
     private static void flatSequences() {
         due.about("promise 8: flat");
-        RuleGraph x = fourFields();
+        RuleGraph x = Graphs.fourFields();
         for (int g = 0; g < 6; g++) {
             x.rule(0, false, 1, g, 0, 1 << g);
         }
@@ -343,7 +332,7 @@ public final class RulesTest {
         };
         int[][] wanted = {{-2, 0}, {0, -2}, {0, 0}, {-2, -2}, {-2, -2}, {0, 0}, {0, 0}, {-2, 0}};
         for (int i = 0; i < rows.length; i++) {
-            RuleGraph x = fourFields();
+            RuleGraph x = Graphs.fourFields();
             for (int s = 0; s < 2; s++) {
                 for (int g : rows[i][s]) {
                     x.member(6 + s, g);
@@ -353,7 +342,7 @@ public final class RulesTest {
             due.is("visits() of " + i, x.visits() > 0 ? 1 : 0, wanted[i][0] == 0 && i != 6 ? 1 : 0);
             due.is("validate(0, 7) of " + i, x.validate(0, 7), wanted[i][1]);
         }
-        RuleGraph x = fourFields();
+        RuleGraph x = Graphs.fourFields();
         x.rule(0, false, 1, 1, 0, 1);
         x.order(0, 1);
         x.member(6, 0);
