@@ -125,7 +125,11 @@ final class Bounds {
     private static String looks(RuleGraph x, int o, int f) {
         StringBuilder text = new StringBuilder();
         for (int g = 0; g < 6; g++) {
-            text.append("look(" + o + ", " + f + ", " + g + ") = " + x.look(o, f, g) + readings(x) + " ");
+            int answer = x.look(o, f, g);
+            text.append("look(" + o + ", " + f + ", " + g + ") = " + answer + " ");
+            if (answer != RuleGraph.NONE) {
+                text.append(readings(x)).append(' ');
+            }
         }
         return text.toString();
     }

@@ -524,8 +524,8 @@ public final class CheckBoundsTest {
 
     private static void violationAsItWas() {
         due.about("promise 20: as it was when it was found");
+        String before = Bounds.readings(Graphs.rich());
         RuleGraph x = Graphs.rich();
-        String before = Bounds.readings(x);
         x.put(0, 0, 77);
         x.put(0, 1, -1);
         x.clear(0, 2, true);
@@ -537,8 +537,9 @@ public final class CheckBoundsTest {
         x.single(1, false);
         x.order(0, 0);
         x.extend(1, 5);
-        if (!Bounds.readings(x).equals(before)) {
-            due.fail("now" + Bounds.readings(x) + ", due is" + before);
+        String now = Bounds.readings(x);
+        if (!now.equals(before)) {
+            due.fail("now" + now + ", due is" + before);
         }
     }
 
