@@ -612,8 +612,11 @@ public final class RuleGraph {
             row[3] = rule;
             row[4] = part;
             row[5] = value;
+            // No library call here: from validate on, eight calls stand open already.
             Row steps = ways[count];
-            System.arraycopy(trail.items, 0, steps.items, 0, trail.size);
+            for (int i = 0; i < trail.size; i++) {
+                steps.items[i] = trail.items[i];
+            }
             steps.size = trail.size;
             count++;
             return true;
